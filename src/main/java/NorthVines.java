@@ -1359,7 +1359,7 @@ public final class NorthVines {
         private int up;
 
         void begin(Slope slope) {
-            for (int r = 0; r < MOST_ROWS; r++) {
+            for (int r = 0; r < slope.rows.count(); r++) {
                 faith.set(r, slope.rows.at(r, FAITH));
             }
             gone = 0;
