@@ -97,6 +97,14 @@ public final class ChanceTest {
             Check.answered("graftWhen(1, 1000, " + n + ")", x, x.graftWhen(1, 1000, n), n >= 4 ? 4 : 0);
             Check.answered("graftWhen(0, 1000, " + n + ")", x, x.graftWhen(0, 1000, n), 0);
         }
+        // Of seven rows the same seeds draw 3, 3, 4, 6, 4.
+        NorthVines seven = Check.vines("slope bears 5 hail 50;row a plain faith 20 grapes 1;row b plain faith 20 grapes 1"
+                + ";row c plain faith 20 grapes 1;row d plain faith 20 grapes 1;row e plain faith 20 grapes 1"
+                + ";row f plain faith 20 grapes 1;row g plain faith 20 grapes 1");
+        int[] behind = {20, 20, 20, 14, 14, 20, 17};
+        for (int r = 0; r < 7; r++) {
+            Check.answered("of seven: grafted(" + r + ", 1000, 5)", seven, seven.grafted(r, 1000, 5), behind[r]);
+        }
         // 65536 becomes 65536: 75 times it and 74 is 74 more than 75 * 65536, which is -75.
         Check.answered("grafted(0, 65536, 2)", x, x.grafted(0, 65536, 2), 14);
         Check.answered("grafted(1, 0, 1), by 74", x, x.grafted(1, 0, 1), 20);

@@ -113,6 +113,10 @@ public final class NowTest {
         for (int wrong : new int[] {2, -1, Integer.MIN_VALUE, Integer.MAX_VALUE}) {
             Check.dueThrow("led(" + wrong + ")", x, wrong);
         }
+        NorthVines all = Check.vines("slope bears 0 hail 0;row a plain faith 0 grapes 1;row b plain faith 9 grapes 1");
+        Check.due("led(0) of all", all.led(0), 0);
+        Check.due("led(1) of all", all.led(1), 1);
+        Check.dueThrow("led(2) of all", all, 2);
         x.row(9, 9);
         Check.due("trouble()", x.trouble(), 1);
         Check.dueThrow("led(2)", x, 2);

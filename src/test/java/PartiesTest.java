@@ -27,6 +27,12 @@ public final class PartiesTest {
         x.put(1, true);
         Check.due("by both walls: tell(2)", x.tell(2), 0);
         Check.due("by both walls: tellMost(2)", x.tellMost(2), 1);
+        NorthVines alone = Check.vines("slope bears 5 hail 0;row a plain faith 15 grapes 1;sign a 20 costs 0 day 0");
+        Check.due("one row: tell(1)", alone.tell(1), 0);
+        Check.due("one row: tellMost(1)", alone.tellMost(1), 1);
+        alone.show(0, true);
+        Check.due("nobody doubts by it: tell(1)", alone.tell(1), 0);
+        Check.due("nobody doubts by it: tellMost(1)", alone.tellMost(1), 0);
     }
 
     private static void play(NorthVines x, int n, int value, int take) {

@@ -10,6 +10,7 @@ public final class TextTest {
         tape();
         numbers();
         slopeStays();
+        oneBehindAnother();
         form();
         tokens();
         names();
@@ -113,6 +114,30 @@ public final class TextTest {
         Check.due("back(0)", x.back(0), false);
         Check.due("faith as told", x.row(0, 1), 1);
         Check.due("spent()", x.spent(), 0);
+    }
+
+    private static void oneBehindAnother() {
+        String full = SEES + ";sees b a by 2;wall a b costs 1;sign a 1 costs 1 day 1;rumour a 1 day 1;doubted a day 1"
+                + ";believed b day 1";
+        NorthVines x = Check.vines(full);
+        for (int i = 0; i < 12; i++) {
+            Check.due("the same once more", Check.read(x, full), 2);
+            Check.due("one that is no slope", Check.read(x, full + ";row a"), -1);
+        }
+        int[] sizes = {1, 0, 2, 2, 1, 1, 1, 2};
+        for (int what = 0; what < sizes.length; what++) {
+            Check.due("of the same: size(" + what + ")", x.size(what), sizes[what]);
+        }
+        Check.due("one with less", Check.read(x, "slope bears 9 hail 8;row c new faith 7 grapes 6"), 1);
+        int[] less = {9, 8, 1, 0, 0, 0, 0, 0};
+        for (int what = 0; what < less.length; what++) {
+            Check.due("of less: size(" + what + ")", x.size(what), less[what]);
+        }
+        Check.due("KIND", x.row(0, 0), 2);
+        Check.due("FAITH", x.row(0, 1), 7);
+        Check.due("GRAPES", x.row(0, 3), 6);
+        Check.due("a name of the former one", Check.read(x, HEAD + ";row d new faith 7 grapes 6;sign a"), -1);
+        Check.due("fault()", x.fault(), 2);
     }
 
     private static void fault(String text, int number, int place) {
