@@ -105,6 +105,8 @@ public final class ChanceTest {
         for (int r = 0; r < 7; r++) {
             Check.answered("of seven: grafted(" + r + ", 1000, 5)", seven, seven.grafted(r, 1000, 5), behind[r]);
         }
+        NorthVines one = Check.vines("slope bears 5 hail 50;row a plain faith 20 grapes 1");
+        Check.answered("of one: grafted(0, 1000, 3)", one, one.grafted(0, 1000, 3), 11);
         // 65536 becomes 65536: 75 times it and 74 is 74 more than 75 * 65536, which is -75.
         Check.answered("grafted(0, 65536, 2)", x, x.grafted(0, 65536, 2), 14);
         Check.answered("grafted(1, 0, 1), by 74", x, x.grafted(1, 0, 1), 20);

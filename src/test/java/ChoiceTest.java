@@ -58,6 +58,20 @@ public final class ChoiceTest {
                 + ";sign a 2 costs 9 day 0;sign a 1 costs 4 day 0;sign a 1 costs 4 day 0;sign a 1 costs 4 day 0");
         Check.due("two cheap ones: feign(1)", y.feign(1), 8);
         Check.due("two cheap ones: feignSigns(1)", y.feignSigns(1), 6);
+        String two = "slope bears 5 hail 0;row a plain faith 8 grapes 20;sign a 1 costs 4 day 0;sign a 1 costs 4 day 0";
+        NorthVines dear = Check.vines(two + ";sign a 2 costs 9 day 0");
+        Check.due("a dear one behind: feign(1)", dear.feign(1), 8);
+        Check.due("a dear one behind: feignSigns(1)", dear.feignSigns(1), 3);
+        NorthVines like = Check.vines(two + ";sign a 2 costs 8 day 0");
+        Check.due("one for as much behind: feign(1)", like.feign(1), 8);
+        Check.due("one for as much behind: feignSigns(1)", like.feignSigns(1), 4);
+        NorthVines every = Check.vines(two);
+        Check.due("all of them: feign(1)", every.feign(1), 8);
+        Check.due("all of them: feignSigns(1)", every.feignSigns(1), 3);
+        NorthVines free = Check.vines("slope bears 5 hail 0;row a plain faith 8 grapes 20;sign a 1 costs 0 day 0"
+                + ";sign a 1 costs 0 day 0;sign a 2 costs 0 day 0");
+        Check.due("for nothing: feign(1)", free.feign(1), 0);
+        Check.due("for nothing: feignSigns(1)", free.feignSigns(1), 4);
     }
 
     private static void bestSign() {
@@ -76,6 +90,10 @@ public final class ChoiceTest {
         NorthVines y = Check.vines("slope bears 5 hail 0;row a plain faith 8 grapes 20;row b plain faith 8 grapes 21"
                 + ";row c plain faith 8 grapes 21;sign a 2 costs 0 day 0;sign b 2 costs 99 day 0;sign c 2 costs 0 day 0");
         Check.due("most more, the first of like ones", y.bestSign(3), 1);
+        // The sign does nothing; a wall would, but it isn't up.
+        NorthVines walled = Check.vines("slope bears 5 hail 0;row a plain faith 10 grapes 20;row z plain faith 0 grapes 20"
+                + ";sees a z by 1;wall a z costs 0;sign a 1 costs 0 day 9");
+        Check.due("walls stay as now", walled.bestSign(3), -2);
     }
 
     private static void walls() {

@@ -173,6 +173,10 @@ public final class DaysTest {
         x.put(0, true);
         Check.due("reach(0) by a wall", x.reach(0), 3);
         Check.due("reach(2) by a wall", x.reach(2), 28);
+        NorthVines y = Check.vines("slope bears 0 hail 0;row a plain faith 10 grapes 1;row b plain faith 10 grapes 1"
+                + ";row c plain faith 10 grapes 1;row d plain faith 10 grapes 1;sees b a by 1;sees c a by 1;sees d b by 1"
+                + ";sees d c by 1");
+        Check.due("reach(0) by two ways", y.reach(0), 15);
     }
 
     private static void refusals() {

@@ -86,7 +86,10 @@ public final class ModelTest {
             return;
         }
         NorthVines x = new NorthVines();
-        int got = Check.read(x, broken);
+        Check.feed(x, broken);
+        // What stands behind the part that is read must not matter.
+        broken = draw(0, 2) == 0 ? broken.substring(0, draw(0, broken.length())) : broken;
+        int got = x.slope(broken.length());
         try {
             Model model = Model.read(broken);
             Check.due("slope of " + broken, got, model.rows.size());
@@ -121,7 +124,7 @@ public final class ModelTest {
                 tokens[at] = tokens[draw(0, tokens.length - 1)];
                 break;
             case 5:
-                return String.join(" ", tokens).substring(0, draw(0, whole.length()));
+                return whole.substring(0, draw(0, whole.length()));
             default:
                 String[] lines = whole.split(";");
                 int line = draw(0, lines.length - 1);

@@ -72,8 +72,30 @@ public final class PartiesTest {
                 + ";sign a 1 costs 0 day 0;sign b 1 costs 0 day 1;sign b 1 costs 0 day 9");
         play(x, 1, 1, -2);
         play(x, 2, 2, 1);
+        NorthVines late = Check.vines("slope bears 5 hail 0;row a plain faith 30 grapes 1;row b plain faith 9 grapes 1"
+                + ";sign a 1 costs 0 day 0;sign a 1 costs 0 day 0;sign a 1 costs 0 day 0;sign a 1 costs 0 day 0"
+                + ";sign a 1 costs 0 day 0;sign b 1 costs 0 day 1");
+        play(late, 1, 1, -2);
+        play(late, 2, 2, 5);
+        late.show(1, true);
+        late.show(3, true);
+        play(late, 2, 2, 5);
+        late.show(5, true);
+        play(late, 2, 2, -2);
+        NorthVines walled = Check.vines("slope bears 5 hail 0;row a plain faith 10 grapes 1;row z plain faith 0 grapes 1"
+                + ";sees a z by 1;wall a z costs 0;sign a 1 costs 0 day 9");
+        play(walled, 1, 0, -2);
+        walled.put(0, true);
+        play(walled, 1, 1, -2);
+        StringBuilder seven = new StringBuilder("slope bears 5 hail 0");
+        for (char c = 'a'; c <= 'g'; c++) {
+            seven.append(";row ").append(c).append(" plain faith 10 grapes 1");
+        }
+        play(Check.vines(seven.toString()), 3, 7, -2);
         // Behind ten days either of two will do, so that one is left even behind an idle sign.
         play(x, 10, 2, 0);
+        x.show(0, true);
+        play(x, 10, 2, 1);
     }
 
     private static void passing() {

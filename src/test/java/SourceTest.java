@@ -6,6 +6,7 @@ public final class SourceTest {
     public static void main(String[] args) {
         someFit();
         twoFit();
+        eitherFits();
         noneFits();
         fromTheBeginning();
         nothingSeen();
@@ -51,6 +52,19 @@ public final class SourceTest {
         NorthVines y = Check.vines(TEXT + ";believed b day 9;doubted a day 20;believed a day 0");
         source(y, 2);
         look(y, 0, 1);
+    }
+
+    private static void eitherFits() {
+        // By t row a has 13, less 3 for each of the first two; then 1 more, less 2 by the third.
+        NorthVines x = Check.vines("slope bears 5 hail 0;row t plain faith 30 grapes 1;row a plain faith 12 grapes 1"
+                + ";sees a t by 1;rumour a 3 day 0;rumour a 3 day 0;rumour a 2 day 1;believed a day 0;doubted a day 1");
+        source(x, 5, 6);
+        look(x, 0, 2);
+        NorthVines seven = Check.vines("slope bears 5 hail 0;row a plain faith 12 grapes 1;row b plain faith 12 grapes 1"
+                + ";row c plain faith 12 grapes 1;row d plain faith 12 grapes 1;row e plain faith 12 grapes 1"
+                + ";row f plain faith 12 grapes 1;row g plain faith 12 grapes 1;rumour g 3 day 19");
+        source(seven, 0, 1);
+        look(seven, 619, 1);
     }
 
     private static void noneFits() {

@@ -78,6 +78,13 @@ public final class TextTest {
         Check.feed(x, A + "    garbage");
         Check.answered("slope of a part", x, x.slope(A.length()), 1);
         Check.due("the rest is gone too", x.size(11), 0);
+        String believing = HEAD + ";row a plain faith 20 grapes 5";
+        Check.feed(x, believing + "9");
+        Check.answered("a whole that goes on behind the part", x, x.slope(believing.length()), 1);
+        Check.due("its grapes", x.row(0, 3), 5);
+        Check.feed(x, A + ";doubtedly");
+        Check.refused("a word that goes on behind the part", x, x.slope(A.length() + 8), 4);
+        Check.due("where()", x.where(), A.length() + 8);
     }
 
     private static void slopeStays() {
@@ -136,6 +143,20 @@ public final class TextTest {
         Check.due("KIND", x.row(0, 0), 2);
         Check.due("FAITH", x.row(0, 1), 7);
         Check.due("GRAPES", x.row(0, 3), 6);
+        Check.due("one with signs and walls", Check.read(x, full), 2);
+        x.show(0, true);
+        x.put(0, true);
+        x.image();
+        x.image();
+        Check.due("the same behind acts", Check.read(x, full), 2);
+        Check.due("no sign is shown", x.sign(0, 4), 0);
+        Check.due("no wall is up", x.wall(0, 3), 0);
+        x.show(0, true);
+        Check.due("its first image", x.image(), 0);
+        x.show(0, false);
+        Check.due("back to it", x.back(0), true);
+        Check.due("shown by it", x.sign(0, 4), 1);
+        Check.due("no wall by it", x.wall(0, 3), 0);
         Check.due("a name of the former one", Check.read(x, HEAD + ";row d new faith 7 grapes 6;sign a"), -1);
         Check.due("fault()", x.fault(), 2);
     }
@@ -236,6 +257,15 @@ public final class TextTest {
         fault("slopebears 1", 1, 0);
         fault("slopes bears 1", 1, 0);
         fault("slop", 1, 0);
+        String all = SEES + ";wall a b costs 1;sign a 1 costs 1 day 1;rumour a 1 day 1;doubted a day 1;believed b day 1";
+        fault(all, 0, 0);
+        for (int i = 0; i < all.length(); i++) {
+            boolean begins = i == 0 || all.charAt(i - 1) == ' ' || all.charAt(i - 1) == ';';
+            boolean isLong = i + 1 < all.length() && Character.isLetter(all.charAt(i)) && Character.isLetter(all.charAt(i + 1));
+            if (begins && isLong) {
+                fault(all.substring(0, i) + 'z' + all.substring(i + 1), 1, i);
+            }
+        }
         fault(HEAD + ";row plain plain faith 30 grapes 99;row faith old faith 0 grapes 0;row by deaf faith 1 grapes 1"
                 + ";sees plain by by 9;wall plain by costs 99;sign by 1 costs 0 day 20;rumour faith 20 day 0"
                 + ";doubted by day 20;believed by day 19;doubted faith day 20", 0, 0);
