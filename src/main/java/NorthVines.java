@@ -1141,6 +1141,9 @@ public final class NorthVines {
             } else if (line != SLOPE_LINE && !slopeTold) {
                 fail(LACKS);
             }
+            if (fault != 0) {
+                return;
+            }
             switch (line) {
                 case SLOPE_LINE:
                     readSlope();
