@@ -1491,10 +1491,9 @@ public final class NorthVines {
         }
 
         void go(int n) {
-            boolean moves = true;
-            for (int i = 0; i < n && moves; i++) {
-                // With no sign or rumour to come, a day without change is the last that matters.
-                moves = pass() || here.gone <= LAST_TOLD_DAY;
+            // No day ends it early: one that changes nothing may have been evened out by what was told.
+            for (int i = 0; i < n; i++) {
+                pass();
             }
         }
 

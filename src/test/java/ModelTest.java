@@ -13,11 +13,18 @@ public final class ModelTest {
             + " grapes by costs day a b c 0 1 9 10 20 21 30 31 99 100 101 1000 ; ; ; abcdefghi ! A").split(" ");
 
     private static String text;
+    /** Whether what is told is little and of days round the last that may be, so that it often evens out there. */
+    private static boolean late;
 
     public static void main(String[] args) {
         for (int i = 0; i < 220; i++) {
             runs();
         }
+        late = true;
+        for (int i = 0; i < 220; i++) {
+            runs();
+        }
+        late = false;
         for (int i = 0; i < 6000; i++) {
             brokenText();
         }
@@ -28,11 +35,23 @@ public final class ModelTest {
         return least + RANDOM.nextInt(most - least + 1);
     }
 
+    private static int toldDay() {
+        return late ? draw(18, 20) : draw(0, draw(0, 20));
+    }
+
+    private static int toldFaith() {
+        return late && draw(0, 1) == 0 ? draw(1, 3) : draw(1, draw(1, 20));
+    }
+
+    private static int ahead(Model.Now now) {
+        return late ? Math.max(0, draw(19, 25) - now.day()) : draw(0, draw(0, 40));
+    }
+
     // ---- texts
 
     private static String slope() {
         StringBuilder s = new StringBuilder("slope bears " + draw(0, 20) + " hail " + draw(0, 4) * 25);
-        int rows = draw(1, 7);
+        int rows = draw(1, late ? 4 : 7);
         String kinds = "plain old new deaf plain plain";
         for (int r = 0; r < rows; r++) {
             s.append(";row ").append(name(r)).append(' ').append(kinds.split(" ")[draw(0, 5)])
@@ -43,7 +62,7 @@ public final class ModelTest {
             int a = draw(0, rows - 1);
             int b = draw(0, rows - 1);
             if (a != b && sights.add(name(a) + " " + name(b))) {
-                s.append(";sees ").append(name(a)).append(' ').append(name(b)).append(" by ").append(draw(1, draw(1, 9)));
+                s.append(";sees ").append(name(a)).append(' ').append(name(b)).append(" by ").append(late ? 1 : draw(1, draw(1, 9)));
             }
         }
         int walls = 0;
@@ -56,16 +75,16 @@ public final class ModelTest {
             }
         }
         for (int i = draw(0, 6); i > 0; i--) {
-            s.append(";sign ").append(name(draw(0, rows - 1))).append(' ').append(draw(1, draw(1, 20)))
-                    .append(" costs ").append(draw(0, draw(0, 9))).append(" day ").append(draw(0, draw(0, 20)));
+            s.append(";sign ").append(name(draw(0, rows - 1))).append(' ').append(toldFaith())
+                    .append(" costs ").append(draw(0, draw(0, 9))).append(" day ").append(toldDay());
         }
         for (int i = draw(0, 5); i > 0; i--) {
-            s.append(";rumour ").append(name(draw(0, rows - 1))).append(' ').append(draw(1, draw(1, 20)))
-                    .append(" day ").append(draw(0, draw(0, 20)));
+            s.append(";rumour ").append(name(draw(0, rows - 1))).append(' ').append(toldFaith())
+                    .append(" day ").append(toldDay());
         }
         Set<String> seen = new TreeSet<>();
         for (int i = draw(0, draw(0, 5)); i > 0; i--) {
-            String what = name(draw(0, rows - 1)) + " day " + draw(0, draw(0, 20));
+            String what = name(draw(0, rows - 1)) + " day " + toldDay();
             if (seen.add(what)) {
                 s.append(draw(0, 1) == 0 ? ";doubted " : ";believed ").append(what);
             }
@@ -136,8 +155,28 @@ public final class ModelTest {
 
     // ---- runs
 
+    /** Half of the late ones are drawn until DAY 20 changes nothing and DAY 21 something. */
+    private static String slopeForRuns() {
+        String drawn = slope();
+        for (int i = late && draw(0, 1) == 0 ? 2000 : 0; i > 0 && !evensOut(drawn); i--) {
+            drawn = slope();
+        }
+        return drawn;
+    }
+
+    private static boolean evensOut(String drawn) {
+        try {
+            Model model = Model.read(drawn);
+            Model.Now behind19 = model.ahead(model.beginning(Set.of(), Set.of()), 20);
+            Model.Now behind20 = model.pass(behind19);
+            return behind19.faith().equals(behind20.faith()) && !behind20.faith().equals(model.pass(behind20).faith());
+        } catch (Model.Fault fault) {
+            return false;
+        }
+    }
+
     private static void runs() {
-        text = slope();
+        text = slopeForRuns();
         Model model;
         try {
             model = Model.read(text);
@@ -151,6 +190,15 @@ public final class ModelTest {
         Deque<Model.Now> past = new ArrayDeque<>();
         List<Model.Now> images = new ArrayList<>();
         ask(x, model, now);
+        // Hail is asked for six days at most: days go by, some of them, until the late ones are near.
+        for (int i = late ? draw(0, 19) : 0; i > 0; i--) {
+            past.addLast(now);
+            now = model.pass(now);
+            due("day()", x.day(), Model.bits(model.doubters(now)));
+        }
+        while (past.size() > 16) {
+            past.removeFirst();
+        }
         for (int turn = 0; turn < 3; turn++) {
             for (int i = draw(1, 7); i > 0; i--) {
                 now = act(x, model, now, past, images);
@@ -276,7 +324,7 @@ public final class ModelTest {
 
     private static void askDays(NorthVines x, Model m, Model.Now now) {
         int r = draw(0, m.rows.size() - 1);
-        int n = draw(0, draw(0, 40));
+        int n = ahead(now);
         due("faithIn(" + r + ", " + n + ")", x.faithIn(r, n), m.ahead(now, n).faith().get(r));
         due("doubtersIn(" + n + ")", x.doubtersIn(n), Model.bits(m.doubters(m.ahead(now, n))));
         due("when(" + r + ")", x.when(r), m.when(now, r));
@@ -290,7 +338,7 @@ public final class ModelTest {
 
     private static void askChoices(NorthVines x, Model m, Model.Now now) {
         int r = draw(0, m.rows.size() - 1);
-        int n = draw(0, draw(0, 40));
+        int n = ahead(now);
         Set<Integer> all = Model.range(m.rows.size());
         Set<Integer> feigned = m.choice(now, false, all, n);
         due("feign(" + n + ")", x.feign(n), feigned == null ? -2 : m.coins(false, feigned));
@@ -323,7 +371,7 @@ public final class ModelTest {
     }
 
     private static void askParties(NorthVines x, Model m, Model.Now now) {
-        int n = draw(0, draw(0, 40));
+        int n = ahead(now);
         int best = 0;
         for (int r = 1; r < m.rows.size(); r++) {
             best = m.tellMost(now, r, n) > m.tellMost(now, best, n) ? r : best;
@@ -346,7 +394,7 @@ public final class ModelTest {
                     m.hailedTerm(now, n, s -> Model.doubts(s, r) ? 1 : 0, lower));
         }
         int seed = draw(0, 65536);
-        int days = draw(0, 40);
+        int days = late ? ahead(now) : draw(0, 40);
         List<Model.Now> grafted = m.grafted(now, seed, days);
         int when = 0;
         for (int i = days; i >= 1; i--) {
