@@ -4,15 +4,21 @@ import java.util.NoSuchElementException;
 final class Check {
     private static int asked = 0;
     private static int wrong = 0;
+    private static String about = "";
 
     private Check() {
+    }
+
+    /** What the answers behind this are about, told ahead of each wrong one. */
+    static void about(String what) {
+        about = what + ": ";
     }
 
     static void due(String call, long got, long want) {
         asked++;
         if (got != want) {
             wrong++;
-            System.out.println(call + " answered " + got + ", due is " + want);
+            System.out.println(about + call + " answered " + got + ", due is " + want);
         }
     }
 
@@ -33,6 +39,12 @@ final class Check {
     /** A call that must have been refused by this number. */
     static void refused(String call, NorthVines x, long got, int why) {
         due(call, got, -1);
+        due(call + ", trouble()", x.trouble(), why);
+    }
+
+    /** An act that must have been done, or refused by this number. */
+    static void act(String call, NorthVines x, boolean got, int why) {
+        due(call, got, why == 0);
         due(call + ", trouble()", x.trouble(), why);
     }
 
