@@ -21,6 +21,12 @@ final class Edge {
     static final String ONE = slope("5 50", "a plain 12 30", "b plain 9 20") + ";sees a b by 1;wall a b costs 3"
             + ";sign b 2 costs 4 day 0;rumour a 1 day 0;believed a day 0";
 
+    /** Two or more of each sort, on which no two questions have much the same answers. */
+    static final String RICH = slope("10 50", "ash plain 14 30", "bay old 12 20", "cot new 16 5", "dip deaf 11 40")
+            + ";sees ash bay by 3;sees bay cot by 4;sees cot ash by 2;sees dip cot by 5;wall bay cot costs 7;wall dip cot costs 9"
+            + ";sign cot 6 costs 5 day 0;sign ash 4 costs 3 day 2;rumour cot 4 day 0;rumour bay 3 day 1"
+            + ";believed bay day 0;doubted cot day 0";
+
     /** As many of each sort as there is room for, with all numbers as high as they may be. */
     static final String MOST = slope("99 100", "a plain 30 99", "b plain 30 99", "c plain 30 99", "d plain 30 99",
             "e plain 30 99", "f plain 30 99", "g plain 30 99")
@@ -168,5 +174,32 @@ final class Edge {
             seen.append(x.wall(k, 3));
         }
         return seen.toString();
+    }
+
+    /** What all questions answer, some of them for a few DAYS: 512 calls are enough to ask this three times of RICH. */
+    static String answers(NorthVines x) {
+        StringBuilder all = new StringBuilder(picture(x));
+        for (int r = 0; r < x.size(2); r++) {
+            for (int what = 0; what <= 5; what++) {
+                all.append(' ').append(x.row(r, what));
+            }
+            all.append(' ').append(x.faithIn(r, 3)).append(' ').append(x.when(r)).append(' ').append(x.reach(r));
+            all.append(' ').append(x.feignFor(r, 3)).append(' ').append(x.cut(r)).append(' ').append(x.doubt(r, 2, false));
+            all.append(' ').append(x.grafted(r, 872, 3)).append(' ').append(x.graftWhen(r, 872, 9)).append(';');
+        }
+        for (int k = 0; k < x.size(5); k++) {
+            all.append(' ').append(x.sign(k, 0)).append(' ').append(x.sign(k, 1)).append(' ').append(x.sign(k, 2)).append(' ').append(x.sign(k, 3));
+        }
+        for (int k = 0; k < x.size(4); k++) {
+            all.append(' ').append(x.wall(k, 0)).append(' ').append(x.wall(k, 1)).append(' ').append(x.wall(k, 2));
+        }
+        all.append(';').append(x.doubters()).append(' ').append(x.grapes()).append(' ').append(x.weakest()).append(' ').append(x.spent());
+        all.append(' ').append(x.doubtersIn(3)).append(' ').append(x.first()).append(' ').append(x.worstDay()).append(' ').append(x.still());
+        all.append(' ').append(x.harvest(5)).append(' ').append(x.feign(2)).append(' ').append(x.feignSigns(2)).append(' ').append(x.bestSign(2));
+        all.append(' ').append(x.walls(3)).append(' ').append(x.wallsUp(3)).append(' ').append(x.sets()).append(' ').append(x.setAt(1));
+        all.append(' ').append(x.could()).append(' ').append(x.surely()).append(' ').append(x.look()).append(' ').append(x.lookLeaves());
+        all.append(' ').append(x.judge()).append(' ').append(x.tell(2)).append(' ').append(x.tellMost(2)).append(' ').append(x.value(2));
+        all.append(' ').append(x.take(2)).append(' ').append(x.mean(2, false)).append(' ').append(x.mean(2, true)).append(' ').append(x.all(2, false));
+        return all.append(' ').append(x.graftDoubters(872, 4)).toString();
     }
 }

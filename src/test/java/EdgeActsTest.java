@@ -511,6 +511,16 @@ public final class EdgeActsTest {
             Check.due(call.getKey() + " has an answer", call.getValue().applyAsLong(x) != -1, true);
             Check.due("behind " + call.getKey(), x.trouble(), 0);
         }
+        NorthVines x = new NorthVines();
+        x.undo();
+        Check.feed(x, Edge.ONE);
+        Check.answered("slope behind a trouble", x, x.slope(Edge.ONE.length()), 2);
+        x.day();
+        x.row(9, 9);
+        Check.act("undo behind a trouble", x, x.undo(), 0);
+        x.image();
+        x.row(9, 9);
+        Check.act("back behind a trouble", x, x.back(0), 0);
     }
 
     private static void troubleNoNumber() {

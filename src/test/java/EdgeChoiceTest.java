@@ -129,6 +129,7 @@ public final class EdgeChoiceTest {
         feigned(x, 20, -2, -2);
         feigned(x, 21, 7, 1);
         feigned(x, 40, 7, 1);
+        feigned(x, 0, -2, -2);
         NorthVines believing = Check.vines(Edge.slope("0 0", "a plain 10 1"));
         feigned(believing, 0, 0, 0);
         feigned(believing, 40, 0, 0);
@@ -322,6 +323,7 @@ public final class EdgeChoiceTest {
         walled(x, 1, 495, 31);
         walled(x, 2, 0, 0);
         walled(x, 40, 0, 0);
+        walled(x, 0, -2, -2);
         NorthVines believing = Check.vines(Edge.slope("0 0", "a plain 10 1"));
         walled(believing, 0, 0, 0);
         walled(believing, 40, 0, 0);

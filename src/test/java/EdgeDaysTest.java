@@ -30,6 +30,7 @@ public final class EdgeDaysTest {
         deaf();
         grapesThen();
         fromNow();
+        nothingGoesBy();
     }
 
     private static void now() {
@@ -240,6 +241,27 @@ public final class EdgeDaysTest {
         }
     }
 
+    private static void nothingGoesBy() {
+        Edge.of("II", "All questions are from NOW");
+        NorthVines x = Check.vines(Edge.RICH);
+        String fresh = Edge.answers(x);
+        Check.due("asked once more", Edge.answers(x).equals(fresh), true);
+        x.day();
+        x.show(1, true);
+        x.put(0, true);
+        x.undo();
+        x.undo();
+        x.undo();
+        Check.due("and behind what was undone", Edge.answers(x).equals(fresh), true);
+        NorthVines y = Check.vines(Edge.RICH);
+        y.show(1, true);
+        y.put(0, true);
+        y.day();
+        String later = Edge.answers(y);
+        Check.due("they are others behind acts", later.equals(fresh), false);
+        Check.due("asked once more behind acts", Edge.answers(y).equals(later), true);
+    }
+
     private static void fromNow() {
         Edge.of("II", "All questions are from NOW: as many DAYS more, signs SHOWN and walls up as NOW.");
         NorthVines x = Check.vines(Edge.slope("0 0", "a plain 20 5", "z plain 9 5") + ";sees a z by 2;wall a z costs 0"
@@ -254,6 +276,25 @@ public final class EdgeDaysTest {
         Check.due("by the wall", x.faithIn(0, 1), 24);
         Check.due("and further", x.faithIn(0, 40), 24);
         Check.due("nothing went by", x.size(8), 1);
+        // a sees b doubt: the sign alone isn't enough then, and the wall alone is.
+        NorthVines y = Check.vines(Edge.slope("0 0", "a plain 10 5", "b plain 9 5", "t plain 30 5") + ";sees a b by 2;sees b t by 1"
+                + ";wall a b costs 1;sign a 1 costs 1 day 0");
+        Check.answered("signs, walls as NOW: feign(1)", y, y.feign(1), -2);
+        Check.answered("signs, walls as NOW: feignFor(0, 1)", y, y.feignFor(0, 1), -2);
+        Check.answered("signs, walls as NOW: bestSign(1)", y, y.bestSign(1), -2);
+        Check.answered("signs, walls as NOW: value(1)", y, y.value(1), 2);
+        Check.answered("walls, signs as NOW: walls(1)", y, y.walls(1), 1);
+        y.put(0, true);
+        Check.answered("with the wall: feign(1)", y, y.feign(1), 0);
+        Check.answered("with the wall: value(1)", y, y.value(1), 3);
+        NorthVines z = Check.vines(Edge.slope("0 0", "a plain 9 5", "z plain 9 5") + ";sees a z by 1;wall a z costs 1;sign a 1 costs 1 day 0");
+        Check.answered("signs, walls as NOW: feignFor(0, 1)", z, z.feignFor(0, 1), -2);
+        Check.answered("signs, walls as NOW: bestSign(1)", z, z.bestSign(1), -2);
+        Check.answered("signs, walls as NOW: take(1)", z, z.take(1), -2);
+        z.put(0, true);
+        Check.answered("with the wall: feignFor(0, 1)", z, z.feignFor(0, 1), 1);
+        Check.answered("with the wall: bestSign(1)", z, z.bestSign(1), 0);
+        Check.answered("with the wall: take(1)", z, z.take(1), 0);
     }
 
     // ---- promises 6 to 12
@@ -509,6 +550,8 @@ public final class EdgeDaysTest {
         Check.answered("behind the latest DAY of which anything is told", late, late.first(), 1);
         NorthVines last = Check.vines(SEVEN.replace("row g plain faith 10", "row g plain faith 9"));
         Check.answered("NOW, the last", last, last.first(), 6);
+        NorthVines all = Check.vines(SEVEN.replace("faith 10", "faith 9"));
+        Check.answered("NOW, the first of all", all, all.first(), 0);
     }
 
     private static void firstNone() {

@@ -385,6 +385,11 @@ public final class EdgeSourceTest {
         play("five shown", x, 1, 7, 5);
         x.show(5, true);
         play("all shown", x, 1, 7, -2);
+        // One that is shown can't be taken to win time.
+        NorthVines either = Check.vines(Edge.slope("0 0", "a plain 9 1") + ";sign a 1 costs 0 day 9;sign a 1 costs 0 day 0;sign a 1 costs 0 day 0");
+        play("the idle one is as good", either, 1, 1, 0);
+        either.show(0, true);
+        play("the idle one is shown", either, 1, 1, 1);
     }
 
     private static void bothPassed() {
@@ -439,6 +444,8 @@ public final class EdgeSourceTest {
         play("the last alone does", Check.vines(Edge.slope("0 0", "a plain 9 1") + idle + ";sign a 1 costs 0 day 0"), 1, 1, 5);
         play("the first alone does", Check.vines(Edge.slope("0 0", "a plain 9 1") + ";sign a 1 costs 0 day 0" + idle), 1, 1, 0);
         // To begin with the idle one loses, as the other one takes the second of the three that tell.
+        NorthVines alone = Check.vines(Edge.slope("0 0", "a plain 9 1") + ";sign a 1 costs 0 day 0");
+        Check.answered("take(1), and no value asked for", alone, alone.take(1), 0);
         play("not the idle one", Check.vines(Edge.slope("0 0", "a plain 8 1") + ";sign a 1 costs 0 day 9" + ";sign a 1 costs 0 day 0".repeat(3)), 1, 1, 1);
     }
 

@@ -129,6 +129,9 @@ public final class EdgeTextTest {
     private static void blanks() {
         Edge.of("I", "blanks, 32, part TOKENS and mean nothing else");
         fine("slope bears1hail0;row a plain faith10grapes1");
+        fine("slope bears1hail0;row a plain faith10grapes1;row b old faith10grapes1;sees a b by1;wall a b costs1"
+                + ";sign a1costs1day1;rumour b1day1;doubted a day1;believed b day1");
+        fault(2, "slope bears1hail0;row a plain faith10grapes1;sign ^b1costs1day1");
         fine("   slope   bears   1   hail   0   ;   row   a   plain   faith   10   grapes   1   ");
         for (int sign = 0; sign < 256; sign++) {
             char c = (char) sign;
@@ -436,6 +439,13 @@ public final class EdgeTextTest {
             if (!token.equals(";")) {
                 fault(1, ahead + "^;");
             }
+            if (token.length() > 1 && !isWhole) {
+                fault(1, ahead + "^z" + token.substring(1));
+                fault(1, ahead + "^" + token.substring(0, token.length() - 1) + "z");
+                fault(1, ahead + "^" + token.substring(1));
+                fault(1, ahead + "^" + token.substring(0, token.length() - 1));
+                fault(1, ahead + "^" + token + "s");
+            }
             ahead.append(token).append(' ');
         }
         fine(ahead.toString());
@@ -621,6 +631,15 @@ public final class EdgeTextTest {
         Check.feed(x, A + "5;row b");
         Check.refused("and the mark", x, x.slope(A.length() + 2), 4);
         Check.due("where()", x.where(), A.length() + 2);
+        // Words that would go on behind the part are words of their own.
+        Check.feed(x, A + ";doubtedly");
+        Check.refused("a word that would go on", x, x.slope(A.length() + 8), 4);
+        Check.due("where()", x.where(), A.length() + 8);
+        Check.feed(x, A + ";believedly");
+        Check.refused("one of eight letters that would go on", x, x.slope(A.length() + 9), 4);
+        Check.due("where()", x.where(), A.length() + 9);
+        Check.feed(x, A + ";doubted a day 1234");
+        Check.answered("a whole that would go on", x, x.slope(A.length() + 16), 1);
         Check.feed(x, A);
         Check.refused("no byte", x, x.slope(0), 4);
         Check.due("fault()", x.fault(), 1);
@@ -656,7 +675,22 @@ public final class EdgeTextTest {
         Check.due("no DAY", x.size(8), 0);
         Check.due("no sign", x.sign(0, 4), 0);
         Check.due("no wall", x.wall(0, 3), 0);
-        Check.due("no IMAGE", x.image(), 0);
+        for (int images = 0; images <= 3; images++) {
+            Check.due("the same slope, images " + images, Check.read(x, Edge.ONE), 2);
+            for (int i = 0; i < images; i++) {
+                x.image();
+            }
+            x.day();
+            Check.due("the same slope again, images " + images, Check.read(x, Edge.ONE), 2);
+            x.show(0, true);
+            Check.due("the first IMAGE has the first number", x.image(), 0);
+            x.show(0, false);
+            x.put(0, true);
+            Check.due("back to it", x.back(0), true);
+            Check.due("the sign by it", x.sign(0, 4), 1);
+            Check.due("the wall by it", x.wall(0, 3), 0);
+            Check.due("FAITH by it", x.row(0, 1), 12);
+        }
     }
 
     private static void howManyRows() {
@@ -692,6 +726,22 @@ public final class EdgeTextTest {
         for (String bad : new String[] {"", "x", HEAD, A + ";", Edge.MOST + ";row", "row"}) {
             Check.refused("slope of " + bad, x, Check.read(x, bad), 4);
             Check.due("all stays", Edge.picture(x).equals(before), true);
+        }
+        // Texts that tell another slope, up to their fault: all questions are asked of the one that stays.
+        String other = Edge.slope("3 20", "z new 2 9", "y deaf 8 8", "x old 29 7") + ";sees x y by 9;sees z x by 9;wall z x costs 1"
+                + ";sign x 9 costs 9 day 1;rumour x 9 day 1;doubted x day 1";
+        for (String bad : new String[] {"", "slope bears 9 hail 9;", other + ";row z", other + ";believed x day 1", Edge.MOST + ";wall"}) {
+            NorthVines y = Check.vines(Edge.RICH);
+            String fresh = Edge.answers(y);
+            Check.refused("slope of " + bad, y, Check.read(y, bad), 4);
+            Check.due("all answers stay, " + bad, Edge.answers(y).equals(fresh), true);
+            NorthVines z = Check.vines(Edge.RICH);
+            z.put(1, true);
+            z.show(0, true);
+            z.day();
+            String later = Edge.answers(z);
+            Check.refused("slope of " + bad + ", later", z, Check.read(z, bad), 4);
+            Check.due("all answers stay later, " + bad, Edge.answers(z).equals(later), true);
         }
         Check.due("names stay told by none", Check.read(x, HEAD + ";row c plain faith 1 grapes 1;sign a"), -1);
         Check.due("fault()", x.fault(), 2);
