@@ -38,6 +38,7 @@ public final class EdgeActsTest {
 
     private static void undone() {
         undoLatest();
+        undoAllRows();
         undoSixteen();
         undoNone();
     }
@@ -61,6 +62,7 @@ public final class EdgeActsTest {
     }
 
     private static void troubles() {
+        none();
         troubleLatest();
         troubleNoNumber();
         troubleEach();
@@ -240,6 +242,30 @@ public final class EdgeActsTest {
         Check.act("undo() of none", x, x.undo(), 6);
     }
 
+    /** A slope on which the first DAY changes each of seven rows. */
+    private static String allChange() {
+        return Edge.slope("0 0", "a plain 10 1", "b plain 11 1", "c plain 12 1", "d plain 13 1", "e plain 14 1", "f plain 15 1", "g plain 16 1")
+                + ";sees a b by 1;sees b c by 1;sees c d by 1;sees d e by 1;sees e f by 1;sees f g by 1;rumour g 9 day 0";
+    }
+
+    private static void undoAllRows() {
+        Edge.of("48", "UNDO: true;");
+        NorthVines x = Check.vines(allChange());
+        x.day();
+        for (int r = 0; r < 7; r++) {
+            Check.due("FAITH of " + r + " behind the DAY", x.row(r, 1), r == 6 ? 7 : 11 + r);
+        }
+        x.day();
+        Check.act("undo()", x, x.undo(), 0);
+        for (int r = 0; r < 7; r++) {
+            Check.due("FAITH of " + r + " behind the DAY again", x.row(r, 1), r == 6 ? 7 : 11 + r);
+        }
+        Check.act("undo() once more", x, x.undo(), 0);
+        for (int r = 0; r < 7; r++) {
+            Check.due("FAITH of " + r + " as told", x.row(r, 1), 10 + r);
+        }
+    }
+
     private static void undoSixteen() {
         Edge.of("III", "(16 are kept)");
         for (int acts : new int[] {15, 16, 17, 18, 31, 32, 33, 48}) {
@@ -384,6 +410,18 @@ public final class EdgeActsTest {
             Check.act("back(" + i + ") once more", x, x.back(i), 0);
             unchanged("what came behind image " + i, x, pictures[i]);
         }
+        NorthVines seven = Check.vines(allChange());
+        seven.image();
+        seven.day();
+        seven.image();
+        seven.day();
+        seven.image();
+        for (int image : new int[] {1, 0, 1}) {
+            seven.back(image);
+            for (int r = 0; r < 7; r++) {
+                Check.due("FAITH of " + r + " by " + image, seven.row(r, 1), image == 0 ? 10 + r : r == 6 ? 7 : 11 + r);
+            }
+        }
     }
 
     private static void backImagesStay() {
@@ -521,6 +559,15 @@ public final class EdgeActsTest {
         x.image();
         x.row(9, 9);
         Check.act("back behind a trouble", x, x.back(0), 0);
+    }
+
+    private static void none() {
+        Edge.of("IV", "`NONE = -1`: There is none; refused.");
+        Check.due("NONE", NorthVines.NONE, -1);
+        NorthVines x = new NorthVines();
+        Check.due("size(12)", x.size(12), NorthVines.NONE);
+        Check.due("doubters()", x.doubters(), NorthVines.NONE);
+        Check.due("mean(0, true)", x.mean(0, true), NorthVines.NONE);
     }
 
     private static void troubleNoNumber() {

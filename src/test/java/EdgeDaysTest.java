@@ -22,6 +22,7 @@ public final class EdgeDaysTest {
         dayNumbers();
         allAtOnce();
         shownSigns();
+        eachRumour();
         rumourKinds();
         doubtSeen();
         oldHalf();
@@ -133,6 +134,21 @@ public final class EdgeDaysTest {
         Check.due("that of the next number", x.faithIn(0, 5), 23);
     }
 
+    private static void eachRumour() {
+        Edge.of("II", "less what each rumour to it of that number tells");
+        NorthVines x = Check.vines(Edge.slope("0 0", "a plain 30 1", "b plain 30 1") + ";rumour a 1 day 3;rumour a 1 day 3;rumour a 20 day 4"
+                + ";rumour b 7 day 3;rumour b 1 day 20");
+        Check.due("not yet", x.faithIn(0, 3), 30);
+        Check.due("each", x.faithIn(0, 4), 28);
+        Check.due("that of the next number", x.faithIn(0, 5), 8);
+        Check.due("none more", x.faithIn(0, 40), 8);
+        Check.due("the other row's own", x.faithIn(1, 4), 23);
+        Check.due("the other row's last", x.faithIn(1, 40), 22);
+        NorthVines five = Check.vines(Edge.slope("0 0", "a new 30 1", "b plain 30 1") + ";rumour b 5 day 20".repeat(5));
+        Check.due("five of one DAY", five.faithIn(1, 21), 5);
+        Check.due("none to the first row", five.faithIn(0, 21), 30);
+    }
+
     private static void rumourKinds() {
         Edge.of("II", "(to a new row twice as much, to an old one half of it, downwards)");
         int[] tells = {1, 2, 3, 9, 14, 15, 19, 20};
@@ -198,6 +214,15 @@ public final class EdgeDaysTest {
         NorthVines six = Check.vines(SEVEN.replace("row a plain faith 10", "row a plain faith 9")
                 + ";sees a b by 9;sees a c by 9;sees a d by 9;sees a e by 9;sees a f by 9;sees a g by 9");
         Check.due("for each", six.faithIn(0, 1), 15);
+        for (int r = 0; r < 7; r++) {
+            char seer = (char) ('a' + r);
+            char seen = (char) ('a' + (r + 1) % 7);
+            NorthVines x = Check.vines(SEVEN.replace("row " + seen + " plain faith 10", "row " + seen + " plain faith 11")
+                    + ";sees " + seer + " " + seen + " by 9");
+            for (int other = 0; other < 7; other++) {
+                Check.due("row " + other + ", where " + r + " sees one", x.faithIn(other, 1), other == r || other == (r + 1) % 7 ? 11 : 10);
+            }
+        }
     }
 
     private static void cutOff() {

@@ -15,6 +15,7 @@ public final class EdgeSourceTest {
 
     private static void source() {
         others();
+        allThatFit();
         fromTheBeginning();
         behindThatDay();
         setsHowMany();
@@ -46,7 +47,9 @@ public final class EdgeSourceTest {
     }
 
     private static void parties() {
+        oneShowsFirst();
         notShown();
+        thoseOfTheOne();
         bothPassed();
         noSignLeft();
         valueDays();
@@ -92,6 +95,23 @@ public final class EdgeSourceTest {
         sets("there wasn't one", none, 0);
         NorthVines one = Check.vines(A + ";rumour a 20 day 0;doubted a day 0");
         sets("there was one", one, 1);
+    }
+
+    private static void allThatFit() {
+        Edge.of("III", "what was seen (doubted, believed: behind the DAY of that number) is so: all sets that fit.");
+        String text = A + ";rumour a 3 day 0;rumour a 1 day 1;rumour a 2 day 1";
+        sets("nothing seen", Check.vines(text), 0, 1, 2, 3, 4, 5, 6, 7);
+        sets("one seen", Check.vines(text + ";doubted a day 2"), 1, 3, 5, 6, 7);
+        sets("two seen", Check.vines(text + ";doubted a day 2;believed a day 0"), 6);
+        sets("two seen, told the other way", Check.vines(text + ";believed a day 0;doubted a day 2"), 6);
+        String two = Edge.slope("0 0", "a plain 12 1", "b plain 12 1", "c plain 9 1") + ";rumour a 3 day 0;rumour b 3 day 0";
+        sets("of another row than the first rumour's", Check.vines(two + ";doubted b day 0"), 2, 3);
+        sets("of both, told the other way", Check.vines(two + ";believed b day 0;doubted a day 0"), 1);
+        sets("of one without a rumour", Check.vines(two + ";doubted c day 0"), 0, 1, 2, 3);
+        sets("of one without a rumour, which isn't so", Check.vines(two + ";believed c day 0"));
+        sets("what can't both be", Check.vines(text + ";doubted a day 0;believed a day 1"));
+        sets("five seen", Check.vines(text + ";doubted a day 0;doubted a day 1;doubted a day 2;doubted a day 19;doubted a day 20"), 1, 3, 5, 7);
+        sets("the last of five isn't so", Check.vines(text + ";doubted a day 0;doubted a day 1;doubted a day 2;doubted a day 19;believed a day 20"));
     }
 
     private static void fromTheBeginning() {
@@ -392,6 +412,35 @@ public final class EdgeSourceTest {
         play("the idle one is shown", either, 1, 1, 1);
     }
 
+    private static void oneShowsFirst() {
+        Edge.of("III", "TWO parties by turns, the one who shows first");
+        NorthVines x = Check.vines(six(9));
+        x.show(5, true);
+        // Of five that are left the one gets three.
+        play("the one begins", x, 1, 1 + 1 + 3, 0);
+        NorthVines one = Check.vines(Edge.slope("0 0", "a plain 9 1", "b plain 9 1") + ";sign b 1 costs 0 day 0");
+        play("the only one is the one's", one, 1, 1, 0);
+    }
+
+    private static void thoseOfTheOne() {
+        Edge.of("III", "Then those of the one are SHOWN, too, and n DAYS go by: the one wants as many rows to believe as may be,"
+                + " the other one as few. VALUE: how many do, both playing best.");
+        // Together with the one that is SHOWN either is enough for a; those of the other one aren't SHOWN.
+        NorthVines x = Check.vines(Edge.slope("0 0", "a plain 8 1", "b plain 9 1") + ";sign a 1 costs 0 day 0;sign a 1 costs 0 day 0;sign b 1 costs 0 day 0");
+        play("one of both rows", x, 1, 1, 0);
+        x.show(0, true);
+        play("with one SHOWN NOW", x, 1, 1, 1);
+        x.show(2, true);
+        play("with two SHOWN NOW", x, 1, 2, 1);
+        Check.due("none is SHOWN by it", x.spent() + x.sign(1, 4), 0);
+        Check.due("no DAY went by", x.size(8), 0);
+        // b sees a: as a believes, so does b, two DAYS later.
+        NorthVines y = Check.vines(Edge.slope("0 0", "a plain 9 1", "b plain 9 1", "c plain 9 1") + ";sees b a by 1"
+                + ";sign c 1 costs 0 day 0;sign a 20 costs 0 day 0");
+        play("one is as good as the other", y, 1, 1, 0);
+        play("a is worth two", y, 3, 2, 1);
+    }
+
     private static void bothPassed() {
         Edge.of("III", "till both have passed one after the other");
         // If the one passes, the other one does, too, and nothing is shown.
@@ -446,6 +495,11 @@ public final class EdgeSourceTest {
         // To begin with the idle one loses, as the other one takes the second of the three that tell.
         NorthVines alone = Check.vines(Edge.slope("0 0", "a plain 9 1") + ";sign a 1 costs 0 day 0");
         Check.answered("take(1), and no value asked for", alone, alone.take(1), 0);
+        // If the one takes an idle one, the other one takes what tells; neither does that.
+        play("the idle one behind", Check.vines(Edge.slope("0 0", "a plain 9 1", "b plain 9 1")
+                + ";sign a 1 costs 0 day 0;sign b 1 costs 0 day 0;sign a 1 costs 0 day 9"), 1, 1, 0);
+        play("the idle one ahead", Check.vines(Edge.slope("0 0", "a plain 9 1", "b plain 9 1", "c plain 9 1")
+                + ";sign a 1 costs 0 day 9;sign a 1 costs 0 day 0;sign b 1 costs 0 day 0;sign c 1 costs 0 day 0"), 1, 2, 1);
         play("not the idle one", Check.vines(Edge.slope("0 0", "a plain 8 1") + ";sign a 1 costs 0 day 9" + ";sign a 1 costs 0 day 0".repeat(3)), 1, 1, 1);
     }
 

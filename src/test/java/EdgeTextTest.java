@@ -354,6 +354,8 @@ public final class EdgeTextTest {
         fault(3, AB + ";believed a day 20;believed a day ^20");
         fault(3, AB + ";doubted a day 7;believed a day ^7");
         fault(3, AB + ";believed a day 7;doubted b day 7;doubted a day ^007");
+        fault(3, ABC + ";doubted b day 7;doubted c day 7;believed c day ^7");
+        fault(3, ABC + ";doubted b day 7;doubted c day 7;believed b day ^7");
         fine(AB + ";believed a day 7;doubted b day 7;doubted a day 8;believed b day 6");
     }
 
@@ -431,6 +433,11 @@ public final class EdgeTextTest {
         for (String token : right) {
             boolean isWhole = Character.isDigit(token.charAt(0));
             boolean isName = token.length() == 1 && Character.isLetter(token.charAt(0));
+            // What is no token, wherever it stands; nor is it the end.
+            fault(1, ahead + "^abcdefghi");
+            fault(1, ahead + "^1000");
+            fault(1, ahead + "^!");
+            fault(1, ahead + "^" + (char) 0);
             // A word where a whole is due, and a whole elsewhere; where no name is due, a name.
             fault(1, ahead + "^" + (isWhole ? "zz" : "5"));
             if (!isName) {
@@ -449,6 +456,9 @@ public final class EdgeTextTest {
             ahead.append(token).append(' ');
         }
         fine(ahead.toString());
+        fault(1, ahead + "^abcdefghi");
+        fault(1, ahead + "^1000");
+        fault(1, ahead + "^!");
     }
 
     private static void formEnd() {
@@ -742,6 +752,12 @@ public final class EdgeTextTest {
             String later = Edge.answers(z);
             Check.refused("slope of " + bad + ", later", z, Check.read(z, bad), 4);
             Check.due("all answers stay later, " + bad, Edge.answers(z).equals(later), true);
+            Check.due("acts go on: show", z.show(1, true), true);
+            Check.due("acts go on: put", z.put(0, true), true);
+            Check.due("no act that there isn't: show", z.show(2, true), false);
+            Check.due("no act that there isn't: put", z.put(2, true), false);
+            int ahead = z.doubtersIn(1);
+            Check.due("acts go on: day", z.day(), ahead);
         }
         Check.due("names stay told by none", Check.read(x, HEAD + ";row c plain faith 1 grapes 1;sign a"), -1);
         Check.due("fault()", x.fault(), 2);
