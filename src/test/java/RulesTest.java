@@ -213,12 +213,51 @@ public final class RulesTest {
 
         @Override
         public Void visitBinary(BinaryTree node, Void v) {
-            boolean divides = node.getKind() == Tree.Kind.DIVIDE || node.getKind() == Tree.Kind.REMAINDER;
-            if (divides && !(node.getRightOperand() instanceof LiteralTree)) {
-                String by = node.getRightOperand().toString();
-                Check.due("a divisor that is looked at: " + node, Set.of("SEEDS", "rows", "b").contains(by), true);
+            if (node.getKind() == Tree.Kind.DIVIDE || node.getKind() == Tree.Kind.REMAINDER) {
+                divisor(node.getRightOperand(), Set.of("SEEDS", "rows", "b"));
             }
+            boolean isNumber = trees.getTypeMirror(getCurrentPath()).getKind().isPrimitive();
+            Check.due("numbers and conditions alone, no text joined by +: " + node, isNumber, true);
             return super.visitBinary(node, v);
+        }
+
+        @Override
+        public Void visitCompoundAssignment(CompoundAssignmentTree node, Void v) {
+            if (node.getKind() == Tree.Kind.DIVIDE_ASSIGNMENT || node.getKind() == Tree.Kind.REMAINDER_ASSIGNMENT) {
+                divisor(node.getExpression(), Set.of("a"));
+            }
+            return super.visitCompoundAssignment(node, v);
+        }
+
+        /** One that is written out and isn't 0, or one of those that the program looks at just ahead. */
+        private void divisor(ExpressionTree by, Set<String> lookedAt) {
+            boolean written = by instanceof LiteralTree && !by.toString().equals("0");
+            Check.due("a divisor that is looked at: " + by, written || lookedAt.contains(by.toString()), true);
+        }
+
+        @Override
+        public Void visitInstanceOf(InstanceOfTree node, Void v) {
+            never("instanceof", node);
+            return null;
+        }
+
+        @Override
+        public Void visitWhileLoop(WhileLoopTree node, Void v) {
+            String condition = node.getCondition().toString();
+            Check.due("a while with an end that can be seen: " + condition, condition.contains("at < end") || condition.contains("next < end"), true);
+            return super.visitWhileLoop(node, v);
+        }
+
+        @Override
+        public Void visitDoWhileLoop(DoWhileLoopTree node, Void v) {
+            never("do", node);
+            return null;
+        }
+
+        @Override
+        public Void visitForLoop(ForLoopTree node, Void v) {
+            Check.due("a for with a bound and a step, line " + line(node, false), node.getCondition() != null && node.getUpdate().size() == 1, true);
+            return super.visitForLoop(node, v);
         }
     }
 }
